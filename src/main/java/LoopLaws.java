@@ -332,6 +332,7 @@ public final class LoopLaws {
         // The relay of the last four seconds, a bit each, the latest lowest: 0 before the first.
         private int relays;
         private int switches;
+        // The second of the last switch to 1; 0 before one, as the first second is no switch.
         private int lastRise;
         private double least;
         private double greatest;
@@ -342,9 +343,7 @@ public final class LoopLaws {
             level = 0;
             relays = 0;
             switches = 0;
-            lastRise = NONE;
-            least = 0;
-            greatest = 0;
+            lastRise = 0;
             period = 0;
             for (int second = 0; second < seconds; second++) {
                 step(second);
@@ -369,7 +368,7 @@ public final class LoopLaws {
         private void countSwitch(int second, int relay) {
             switches++;
             if (relay == 1) {
-                period = lastRise == NONE ? 0 : second - lastRise;
+                period = lastRise == 0 ? 0 : second - lastRise;
                 lastRise = second;
             }
         }

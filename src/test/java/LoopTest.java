@@ -56,5 +56,9 @@ public final class LoopTest {
         due.number("error above the first band", laws.tick(0, 0, 1.125), 100);
         laws.range(0, 0, 1);
         due.number("a first safe value", laws.tick(0, 2, 0), 0);
+        laws.safe(0, -150);
+        laws.tick(0, 2, 0);
+        laws.mode(0, 1);
+        due.number("a first rate of 100, up from -150", laws.tick(0, 0, 200), -50);
     }
 }

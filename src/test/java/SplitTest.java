@@ -27,8 +27,12 @@ public final class SplitTest {
         laws.tick(0, 0, 40);
         due.number("part 0 at the split", laws.part(0, 0), 100);
         due.number("part 1 at the split", laws.part(0, 1), 0);
-        laws.tick(0, 0, 61);
-        due.number("part 1, reckoned from the left", laws.part(0, 1), (61.0 - 40.0) / (100.0 - 40.0) * 100);
+        laws.limits(0, 20, 65, 1000);
+        laws.tick(0, 0, 47);
+        due.number("part 1 at 47 of 40 to 65, from the left", laws.part(0, 1), 28.000000000000004);
+        laws.limits(0, 15, 65, 1000);
+        laws.tick(0, 0, 22);
+        due.number("part 0 at 22 of 15 to 40, from the left", laws.part(0, 0), 28.000000000000004);
     }
 
     private static void holdsParts(Due due) {
@@ -39,6 +43,13 @@ public final class SplitTest {
         laws.tick(0, 2, 0);
         due.number("part 0 of a u below LOW", laws.part(0, 0), 0);
         due.number("part 1 of a u below LOW", laws.part(0, 1), 0);
+        laws.safe(0, 0.25);
+        laws.tick(0, 2, 0);
+        due.number("part 0 a little above 0", laws.part(0, 0), 0.5);
+        laws.safe(0, 50.25);
+        laws.tick(0, 2, 0);
+        due.number("part 0 of a u a little above the split", laws.part(0, 0), 100);
+        due.number("part 1 of a u a little above the split", laws.part(0, 1), 0.5);
         laws.safe(0, 130);
         laws.tick(0, 2, 0);
         due.number("part 0 of a u above HIGH", laws.part(0, 0), 100);

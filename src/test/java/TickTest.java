@@ -42,14 +42,11 @@ public final class TickTest {
         due.number("the greatest error, held by HIGH and the rate", laws.tick(0, -1000000, 1000000), 9999);
     }
 
+    // Any other order of the sums gives other last digits here.
     private static void reckonsFromTheLeft(Due due) {
-        LoopLaws laws = Loops.one(0.1, 0.7, 0.3, 1);
-        double e = 3.3 - 1.1;
-        double f = 3.3 - 2.7;
-        double sum = 0 + 0.7 * e;
-        due.number("first", laws.tick(0, 1.1, 3.3), 0.1 * e + sum + 0.3 * (e - 0));
-        double next = sum + 0.7 * f;
-        due.number("second", laws.tick(0, 2.7, 3.3), 0.1 * f + next + 0.3 * (f - e));
+        LoopLaws laws = Loops.one(0.5, 0.2, 2.3, 1);
+        due.number("first", laws.tick(0, 0.4, 8.2), 23.4);
+        due.number("second", laws.tick(0, 1.8, 8.2), 2.8200000000000007);
     }
 
     private static void holdsWindupAbove(Due due) {
@@ -61,8 +58,10 @@ public final class TickTest {
         laws.limits(0, 0, 3, 100);
         due.number("v above HIGH, e below 0: sum 4", laws.tick(0, 1, 0), 3);
         due.number("v above HIGH, e 0: sum 4", laws.tick(0, 0, 0), 3);
+        due.number("v above HIGH, e a little above 0: held", laws.tick(0, 0, 0.125), 3);
+        due.number("v above HIGH, e a little below 0: sum 3.875", laws.tick(0, 0.125, 0), 3);
         laws.limits(0, 0, 10, 100);
-        due.number("the sum is 4", laws.tick(0, 0, 0), 4);
+        due.number("the sum is 3.875", laws.tick(0, 0, 0), 3.875);
     }
 
     private static void holdsWindupBelow(Due due) {
@@ -73,8 +72,10 @@ public final class TickTest {
         due.number("the sum was still -5", laws.tick(0, 0, 0), -5);
         laws.limits(0, -3, 0, 100);
         due.number("v below LOW, e above 0: sum -4", laws.tick(0, 0, 1), -3);
+        due.number("v below LOW, e a little below 0: held", laws.tick(0, 0.125, 0), -3);
+        due.number("v below LOW, e a little above 0: sum -3.875", laws.tick(0, 0, 0.125), -3);
         laws.limits(0, -10, 0, 100);
-        due.number("the sum is -4", laws.tick(0, 0, 0), -4);
+        due.number("the sum is -3.875", laws.tick(0, 0, 0), -3.875);
     }
 
     private static void keepsSumAtTheLimits(Due due) {

@@ -113,7 +113,10 @@ public final class TuneTest {
         laws.tune(0, 40);
         due.number("the later tuning counts", laws.tuned(0, 0), 3.9364612699710064);
         laws.tune(0, 30);
-        due.number("one without gains too", laws.tuned(0, 0), 0);
+        due.number("one with one switch to 1 too", laws.tuned(0, 0), 0);
+        laws.tune(0, 40);
+        laws.tune(0, 10);
+        due.number("one without switches too", laws.tuned(0, 0), 0);
     }
 
     private static void refusesTunings(Due due) {
