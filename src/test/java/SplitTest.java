@@ -1,123 +1,149 @@
-/** Promises 9 and 10: splits and their parts. */
+/** Promise 9: splits, where they may be, and how many there are. */
 public final class SplitTest {
     public static void main(String[] args) {
         Due due = new Due();
-        splitsTheOutput(due);
-        holdsParts(due);
+        numbersSplits(due);
+        takesValuesBetween(due);
         followsTheLimits(due);
-        refusesSplits(due);
+        leavesTheLoop(due);
+        refusesValues(due);
+        refusesLoops(due);
         fills(due);
-        refusesParts(due);
+        asksTheRestBeforeFull(due);
+        fullChangesNothing(due);
         due.end();
     }
 
-    private static void splitsTheOutput(Due due) {
-        LoopLaws laws = Loops.one(1, 0, 0, 1);
-        laws.limits(0, 20, 100, 1000);
-        due.number("split at 40", laws.split(0, 40), 0);
-        due.number("split at 60", laws.split(0, 60), 1);
-        laws.tick(0, 0, 30);
-        due.number("part 0 at 30 of 20 to 40", laws.part(0, 0), 50);
-        due.number("part 1 at 30 of 40 to 100", laws.part(0, 1), 0);
-        due.number("part 0 at 30 of 20 to 60", laws.part(1, 0), 25);
-        laws.tick(0, 0, 70);
-        due.number("part 0 at 70 of 20 to 40", laws.part(0, 0), 100);
-        due.number("part 1 at 70 of 40 to 100", laws.part(0, 1), 50);
-        due.number("part 1 at 70 of 60 to 100", laws.part(1, 1), 25);
-        laws.tick(0, 0, 40);
-        due.number("part 0 at the split", laws.part(0, 0), 100);
-        due.number("part 1 at the split", laws.part(0, 1), 0);
-        laws.limits(0, 20, 65, 1000);
-        laws.tick(0, 0, 47);
-        due.number("part 1 at 47 of 40 to 65, from the left", laws.part(0, 1), 28.000000000000004);
-        laws.limits(0, 15, 65, 1000);
-        laws.tick(0, 0, 22);
-        due.number("part 0 at 22 of 15 to 40, from the left", laws.part(0, 0), 28.000000000000004);
+    // "A split of a loop's output at a value: its number, from 0."
+    private static void numbersSplits(Due due) {
+        LoopLaws laws = Loops.many(3);
+        for (int k = 0; k < 16; k++) {
+            due.number("no split yet " + k, laws.part(k, 0), -1);
+            due.number("split " + k, laws.split(k % 3, 50), k);
+            due.number("there it is " + k, laws.part(k, 0), 0);
+        }
     }
 
-    private static void holdsParts(Due due) {
-        LoopLaws laws = Loops.many(1);
-        laws.split(0, 50);
-        laws.range(0, 0, 1);
-        laws.safe(0, -30);
-        laws.tick(0, 2, 0);
-        due.number("part 0 of a u below LOW", laws.part(0, 0), 0);
-        due.number("part 1 of a u below LOW", laws.part(0, 1), 0);
-        laws.safe(0, 0.25);
-        laws.tick(0, 2, 0);
-        due.number("part 0 a little above 0", laws.part(0, 0), 0.5);
-        laws.safe(0, 50.25);
-        laws.tick(0, 2, 0);
-        due.number("part 0 of a u a little above the split", laws.part(0, 0), 100);
-        due.number("part 1 of a u a little above the split", laws.part(0, 1), 0.5);
-        laws.safe(0, 130);
-        laws.tick(0, 2, 0);
-        due.number("part 0 of a u above HIGH", laws.part(0, 0), 100);
-        due.number("part 1 of a u above HIGH", laws.part(0, 1), 100);
+    // "at is not above LOW and below HIGH": what is.
+    private static void takesValuesBetween(Due due) {
+        LoopLaws laws = Loops.many(2);
+        due.number("just above the first LOW", laws.split(0, Double.MIN_VALUE), 0);
+        due.number("just below the first HIGH", laws.split(0, Loops.below(100)), 1);
+        laws.limits(1, -10000, 10000, 1);
+        due.number("just above the least LOW", laws.split(1, Loops.above(-10000)), 2);
+        due.number("0", laws.split(1, 0), 3);
+        due.number("just below the greatest HIGH", laws.split(1, Loops.below(10000)), 4);
+        laws.limits(1, 5, Loops.above(Loops.above(5)), 1);
+        due.number("the only value between", laws.split(1, Loops.above(5)), 5);
+        due.number("the same value again", laws.split(1, Loops.above(5)), 6);
     }
 
     private static void followsTheLimits(Due due) {
         LoopLaws laws = Loops.many(1);
-        laws.split(0, 50);
-        laws.hand(0, 75);
-        laws.tick(0, 0, 0);
-        due.number("part 1 up to the first HIGH", laws.part(0, 1), 50);
-        laws.limits(0, 25, 250, 100);
-        due.number("part 1 up to another HIGH", laws.part(0, 1), 12.5);
-        laws.limits(0, 50, 250, 100);
-        due.number("part 0, at is LOW", laws.part(0, 0), 0);
-        due.number("part 1, at is LOW", laws.part(0, 1), 0);
-        laws.limits(0, 0, 50, 100);
-        due.number("part 0, at is HIGH", laws.part(0, 0), 0);
-        due.number("part 1, at is HIGH", laws.part(0, 1), 0);
-        laws.limits(0, 60, 70, 100);
-        due.number("part 0, at is below LOW", laws.part(0, 0), 0);
-        laws.limits(0, 30, 40, 100);
-        due.number("part 0, at is above HIGH", laws.part(0, 0), 0);
-        laws.limits(0, 0, 100, 100);
-        due.number("part 0, at is between again", laws.part(0, 0), 100);
-        due.number("part 1, at is between again", laws.part(0, 1), 50);
+        due.number("100 at first", laws.split(0, 100), -1);
+        due.number("0 at first", laws.split(0, 0), -1);
+        laws.limits(0, -1, 101, 1);
+        due.number("100 under HIGH 101", laws.split(0, 100), 0);
+        due.number("0 above LOW -1", laws.split(0, 0), 1);
+        laws.limits(0, 40, 41, 1);
+        due.number("40 at LOW 40", laws.split(0, 40), -1);
+        due.number("41 at HIGH 41", laws.split(0, 41), -1);
+        laws.limits(0, 5, Loops.above(5), 1);
+        due.number("no value between: LOW", laws.split(0, 5), -1);
+        due.number("no value between: HIGH", laws.split(0, Loops.above(5)), -1);
     }
 
-    private static void refusesSplits(Due due) {
-        LoopLaws laws = Loops.many(1);
-        laws.limits(0, -10, 10, 1);
-        double[] wrong = {-10, 10, -11, 11, Loops.NAN, Loops.INFINITE, -Loops.INFINITE};
-        for (double at : wrong) {
-            due.number("split at " + at, laws.split(0, at), -1);
+    // A split changes nothing of its loop: it may be made before the loop's work or behind it.
+    private static void leavesTheLoop(Due due) {
+        new Refusals(due).alike("with splits made early", Plant::grown);
+        LoopLaws laws = Loops.echoes(1);
+        laws.tick(0, 0, 300);
+        laws.split(0, 200);
+        due.number("u is not held by a split", laws.tick(0, 0, 400), 400);
+    }
+
+    // "NONE, refused, when .. at is not above LOW and below HIGH"
+    private static void refusesValues(Due due) {
+        Refusals refusals = new Refusals(due);
+        double[] lows = {5, -20, 10, 0};
+        double[] highs = {65, 80, 50, 100};
+        for (int loop = 0; loop < Plant.LOOPS; loop++) {
+            int n = loop;
+            double low = lows[n];
+            double high = highs[n];
+            refusals.number("split at LOW of " + n, laws -> laws.split(n, low), -1);
+            refusals.number("split at HIGH of " + n, laws -> laws.split(n, high), -1);
+            for (double at : Loops.outside(low, high)) {
+                refusals.number("split of " + n + " at " + at, laws -> laws.split(n, at), -1);
+            }
+            due.number("just above LOW of " + n, Plant.running().split(n, Loops.above(low)), 2);
+            due.number("just below HIGH of " + n, Plant.running().split(n, Loops.below(high)), 2);
         }
-        due.number("split of no loop", laws.split(1, 0), -1);
-        due.number("split of loop -1", laws.split(-1, 0), -1);
-        due.number("split of loop 16", laws.split(16, 0), -1);
-        due.number("the first split", laws.split(0, 9.875), 0);
-        due.number("the second split", laws.split(0, -9.875), 1);
+        refusals.number("split at -0, at LOW 0", laws -> laws.split(3, -0.0), -1);
     }
 
+    // "NONE, refused, when there is no such loop"
+    private static void refusesLoops(Due due) {
+        Refusals refusals = new Refusals(due);
+        for (int n : Loops.beyond(Plant.LOOPS)) {
+            refusals.number("split of loop " + n, laws -> laws.split(n, 30), -1);
+        }
+        due.number("split of the last loop", Plant.running().split(Plant.LOOPS - 1, 30), 2);
+        due.number("split of loop 16 of 16", Loops.many(16).split(16, 30), -1);
+        due.number("split of loop 15 of 16", Loops.many(16).split(15, 30), 0);
+    }
+
+    private static LoopLaws withSplits(int count) {
+        LoopLaws laws = Plant.running();
+        for (int k = Plant.SPLITS; k < count; k++) {
+            laws.split(k % 3, 20 + k);
+        }
+        return laws;
+    }
+
+    // "behind that FULL when there are 16"
     private static void fills(Due due) {
-        LoopLaws laws = Loops.many(2);
-        for (int k = 0; k < 16; k++) {
-            due.number("split " + k, laws.split(k % 2, 10 + k), k);
+        for (int loop = 0; loop < Plant.LOOPS; loop++) {
+            due.number("the sixteenth split, of loop " + loop, withSplits(15).split(loop, 30), 15);
+            LoopLaws laws = withSplits(16);
+            due.number("the seventeenth split, of loop " + loop, laws.split(loop, 30), -2);
+            due.number("the seventeenth split again", laws.split(loop, 40), -2);
+            due.number("part of the sixteenth", laws.part(15, 1), 0);
+            due.number("part of the seventeenth", laws.part(16, 1), -1);
         }
-        due.number("the seventeenth split", laws.split(0, 50), -2);
-        due.number("a wrong value comes before full", laws.split(0, 0), -1);
-        due.number("a wrong loop comes before full", laws.split(2, 50), -1);
-        laws.hand(1, 50);
-        laws.tick(1, 0, 0);
-        due.number("the last split is of loop 1", laws.part(15, 0), 100);
-        due.number("the first is of loop 0", laws.part(0, 0), 0);
+        LoopLaws one = Loops.many(2);
+        for (int k = 0; k < 16; k++) {
+            due.number("split " + k + " of one loop", one.split(0, 50), k);
+        }
+        due.number("the seventeenth split of one loop", one.split(0, 50), -2);
+        due.number("the first split of another loop", one.split(1, 50), -2);
     }
 
-    private static void refusesParts(Due due) {
-        LoopLaws laws = Loops.many(1);
-        laws.split(0, 50);
-        due.number("part 0", laws.part(0, 0), 0);
-        int[] wrong = {-1, 2, 16, Integer.MAX_VALUE, Integer.MIN_VALUE};
-        for (int n : wrong) {
-            due.number("part " + n, laws.part(0, n), -1);
-            due.number("part of no split " + n, laws.part(n, 0), -1);
+    // "NONE .. ; behind that FULL": a wrong loop or value answers first.
+    private static void asksTheRestBeforeFull(Due due) {
+        LoopLaws laws = withSplits(16);
+        due.number("at LOW before full", laws.split(3, 0), -1);
+        due.number("just above LOW in a full object", laws.split(3, Double.MIN_VALUE), -2);
+        due.number("at HIGH before full", laws.split(3, 100), -1);
+        due.number("just below HIGH in a full object", laws.split(3, Loops.below(100)), -2);
+        for (int n : Loops.beyond(Plant.LOOPS)) {
+            due.number("loop " + n + " before full", laws.split(n, 30), -1);
         }
-        due.number("part of the next split", laws.part(1, 1), -1);
-        laws.limits(0, 60, 70, 1);
-        due.number("a wrong part of a split outside", laws.part(0, 2), -1);
+    }
+
+    private static void fullChangesNothing(Due due) {
+        Refusals refusals = new Refusals(due, () -> withSplits(16));
+        refusals.number("the seventeenth split", laws -> laws.split(0, 30), -2);
+        refusals.number("a wrong seventeenth split", laws -> laws.split(0, 65), -1);
+        LoopLaws laws = Loops.echoes(1);
+        laws.limits(0, 0, 100, 100);
+        for (int k = 0; k < 16; k++) {
+            laws.split(0, k == 15 ? 80 : 50);
+        }
+        laws.tick(0, 0, 40);
+        laws.split(0, 10);
+        for (int k = 0; k < 16; k++) {
+            due.number("split " + k + " stands where it was", laws.part(k, 0), k == 15 ? 50 : 80);
+        }
     }
 }

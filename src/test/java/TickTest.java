@@ -1,129 +1,100 @@
-/** Promise 5: ticks by hand, by the law and on and off. */
+/** Promise 5: a tick, what it takes and what it refuses. */
 public final class TickTest {
-    private static final double[] NO_READINGS = {
-        -1000000.125, 1000000.125, Loops.NAN, Loops.INFINITE, -Loops.INFINITE};
-
     public static void main(String[] args) {
         Due due = new Due();
-        movesByHand(due);
-        addsThreeTerms(due);
-        reckonsFromTheLeft(due);
-        holdsWindupAbove(due);
-        holdsWindupBelow(due);
-        keepsSumAtTheLimits(due);
-        switchesOnAndOff(due);
-        keepsLastErrorInEveryMode(due);
+        answersTheOutput(due);
+        takesReadings(due);
         refusesReadings(due);
+        refusesTargetsOfInnerLoops(due);
+        refusesBeforeAFault(due);
+        refusesLoops(due);
+        answersThe512thCall(due);
         due.end();
     }
 
-    private static void movesByHand(Due due) {
-        LoopLaws laws = Loops.many(1);
-        laws.limits(0, 0, 100, 4);
-        laws.hand(0, 10);
-        due.number("by hand, up by the rate", laws.tick(0, 500, -500), 4);
-        due.number("by hand, up again", laws.tick(0, 0, 0), 8);
-        due.number("by hand, there", laws.tick(0, 0, 0), 10);
-        due.number("by hand, stays", laws.tick(0, 0, 0), 10);
-        laws.hand(0, 3);
-        due.number("by hand, down by the rate", laws.tick(0, 0, 0), 6);
-        due.number("by hand, down, there", laws.tick(0, 0, 0), 3);
-        laws.limits(0, 50, 100, 4);
-        due.number("by hand no limit holds u", laws.tick(0, 0, 0), 3);
+    // "A tick: u behind it."
+    private static void answersTheOutput(Due due) {
+        LoopLaws laws = Loops.echoes(2);
+        due.number("u behind a tick", laws.tick(0, 10, 35), 25);
+        due.number("u of the other loop", laws.tick(1, 10, 4), -6);
+        due.number("u behind the next tick", laws.tick(0, 10, 34), 24);
+        due.number("u behind a fault", behindFault(laws), -17);
     }
 
-    private static void addsThreeTerms(Due due) {
-        LoopLaws laws = Loops.one(2, 0.5, 3, 1);
-        laws.limits(0, -10000, 10000, 10000);
-        due.number("first: 8 + 2 + 12", laws.tick(0, 6, 10), 22);
-        due.number("second: 12 + 5 + 6", laws.tick(0, 4, 10), 23);
-        due.number("third: -4 + 4 - 24", laws.tick(0, 12, 10), -24);
-        due.number("fourth: -4 + 3 + 0", laws.tick(0, 12, 10), -1);
-        due.number("the greatest error, held by HIGH and the rate", laws.tick(0, -1000000, 1000000), 9999);
+    private static double behindFault(LoopLaws laws) {
+        laws.safe(0, -17);
+        laws.range(0, 0, 0);
+        return laws.tick(0, 1, 0);
     }
 
-    // Any other order of the sums gives other last digits here.
-    private static void reckonsFromTheLeft(Due due) {
-        LoopLaws laws = Loops.one(0.5, 0.2, 2.3, 1);
-        due.number("first", laws.tick(0, 0.4, 8.2), 23.4);
-        due.number("second", laws.tick(0, 1.8, 8.2), 2.8200000000000007);
-    }
-
-    private static void holdsWindupAbove(Due due) {
-        LoopLaws laws = Loops.one(1, 1, 0, 1);
-        laws.limits(0, 0, 10, 100);
-        due.number("v just HIGH: the sum grows to 5", laws.tick(0, 0, 5), 10);
-        due.number("v above HIGH, e above 0: held", laws.tick(0, 0, 20), 10);
-        due.number("the sum was still 5", laws.tick(0, 0, 0), 5);
-        laws.limits(0, 0, 3, 100);
-        due.number("v above HIGH, e below 0: sum 4", laws.tick(0, 1, 0), 3);
-        due.number("v above HIGH, e 0: sum 4", laws.tick(0, 0, 0), 3);
-        due.number("v above HIGH, e a little above 0: held", laws.tick(0, 0, 0.125), 3);
-        due.number("v above HIGH, e a little below 0: sum 3.875", laws.tick(0, 0.125, 0), 3);
-        laws.limits(0, 0, 10, 100);
-        due.number("the sum is 3.875", laws.tick(0, 0, 0), 3.875);
-    }
-
-    private static void holdsWindupBelow(Due due) {
-        LoopLaws laws = Loops.one(1, 1, 0, 1);
-        laws.limits(0, -10, 0, 100);
-        due.number("v just LOW: the sum falls to -5", laws.tick(0, 5, 0), -10);
-        due.number("v below LOW, e below 0: held", laws.tick(0, 20, 0), -10);
-        due.number("the sum was still -5", laws.tick(0, 0, 0), -5);
-        laws.limits(0, -3, 0, 100);
-        due.number("v below LOW, e above 0: sum -4", laws.tick(0, 0, 1), -3);
-        due.number("v below LOW, e a little below 0: held", laws.tick(0, 0.125, 0), -3);
-        due.number("v below LOW, e a little above 0: sum -3.875", laws.tick(0, 0, 0.125), -3);
-        laws.limits(0, -10, 0, 100);
-        due.number("the sum is -3.875", laws.tick(0, 0, 0), -3.875);
-    }
-
-    private static void keepsSumAtTheLimits(Due due) {
-        LoopLaws laws = Loops.one(0, 1, 0, 1);
-        laws.limits(0, 0, 100, 1);
-        due.number("the rate holds u, not the sum", laws.tick(0, 0, 20), 1);
-        due.number("on towards 20", laws.tick(0, 0, 0), 2);
-        laws.limits(0, 0, 100, 100);
-        due.number("at 20", laws.tick(0, 0, 0), 20);
-    }
-
-    private static void switchesOnAndOff(Due due) {
-        LoopLaws laws = Loops.one(5, 5, 5, 2);
-        laws.limits(0, 10, 50, 30);
-        laws.band(0, -2, 3);
-        due.number("on, by the rate", laws.tick(0, 0, 3.125), 30);
-        due.number("on the band's high: stays", laws.tick(0, 0, 3), 30);
-        due.number("on the band's low: stays", laws.tick(0, 2, 0), 30);
-        due.number("on, at HIGH", laws.tick(0, 0, 4), 50);
-        due.number("off, by the rate", laws.tick(0, 2.125, 0), 20);
-        due.number("off, at LOW", laws.tick(0, 3, 0), 10);
-        due.number("within: stays at LOW", laws.tick(0, 0, 0), 10);
-    }
-
-    private static void keepsLastErrorInEveryMode(Due due) {
-        for (int mode = 0; mode < 3; mode++) {
-            LoopLaws laws = Loops.one(0, 0, 1, mode);
-            laws.limits(0, -10000, 10000, 10000);
-            laws.band(0, -10000, 10000);
-            double u = laws.tick(0, 0, 8);
-            due.number("u in mode " + mode, u, mode == 1 ? 8 : 0);
-            laws.mode(0, 1);
-            due.number("the last error of mode " + mode + " counts", laws.tick(0, 0, 10), 2);
+    // "measured or target are not -1,000,000 to 1,000,000": what is.
+    private static void takesReadings(Due due) {
+        double[] right = {-1000000, Loops.above(-1000000), -0.0, 0, Loops.below(1000000), 1000000};
+        for (double v : right) {
+            LoopLaws laws = Loops.echoes(1);
+            due.number("measured " + v, laws.tick(0, v, v), 0);
+            laws.tick(0, 0, 5);
+            due.number("target " + v + ", held", laws.tick(0, v, v), 0);
+            due.number("measured alone " + v, laws.tick(0, v, 0), v > 5 ? -10000 : v < -5 ? 10000 : 0);
+            laws.tick(0, 0, 0);
+            due.number("target alone " + v, laws.tick(0, 0, v), v > 5 ? 10000 : v < -5 ? -10000 : 0);
         }
     }
 
+    // "0, refused, when .. measured or target are not -1,000,000 to 1,000,000"
     private static void refusesReadings(Due due) {
-        LoopLaws laws = Loops.one(0, 0, 1, 1);
-        due.number("tick", laws.tick(0, 0, 8), 8);
-        for (double v : NO_READINGS) {
-            due.number("measured " + v, laws.tick(0, v, 1), 0);
-            due.number("target " + v, laws.tick(0, 1, v), 0);
+        Refusals refusals = new Refusals(due);
+        for (double v : Loops.outside(-1000000, 1000000)) {
+            for (int loop = 0; loop < Plant.LOOPS; loop++) {
+                int n = loop;
+                refusals.number("measured " + v + " of loop " + n, laws -> laws.tick(n, v, 1), 0);
+                refusals.number("target " + v + " of loop " + n, laws -> laws.tick(n, 1, v), 0);
+                refusals.number("both " + v + " of loop " + n, laws -> laws.tick(n, v, v), 0);
+            }
         }
-        due.number("no loop", laws.tick(1, 0, 20), 0);
-        due.number("loop -1", laws.tick(-1, 0, 20), 0);
-        due.number("the last error is still 8", laws.tick(0, 0, 20), 12);
-        due.number("no fault was counted", laws.fault(0), 0);
-        due.number("the least readings", laws.tick(0, -1000000, -1000000), 0);
-        due.number("the greatest readings", laws.tick(0, 1000000, 1000000), 0);
+    }
+
+    // An inner loop asks not for its target, but the call is wrong all the same.
+    private static void refusesTargetsOfInnerLoops(Due due) {
+        LoopLaws laws = Loops.echoes(2);
+        laws.cascade(0, 1);
+        laws.tick(0, 0, 30);
+        due.number("the greatest target", laws.tick(1, 5, 1000000), 25);
+        due.number("just above it", laws.tick(1, 6, Loops.above(1000000)), 0);
+        due.number("the least target", laws.tick(1, 7, -1000000), 23);
+        due.number("just below it", laws.tick(1, 8, Loops.below(-1000000)), 0);
+    }
+
+    // A refused tick is no fault, however far outside the range its reading is.
+    private static void refusesBeforeAFault(Due due) {
+        LoopLaws laws = Loops.many(1);
+        laws.range(0, -1000000, 0);
+        laws.safe(0, 40);
+        due.number("a refused reading outside the range", laws.tick(0, Loops.above(1000000), 0), 0);
+        due.number("a refused target, a reading outside", laws.tick(0, 1, Loops.above(1000000)), 0);
+        due.number("no fault", laws.fault(0), 0);
+        due.number("the greatest reading, outside the range", laws.tick(0, 1000000, 0), 40);
+        due.number("a fault", laws.fault(0), 1);
+    }
+
+    // "0, refused, when there is no such loop"
+    private static void refusesLoops(Due due) {
+        Refusals refusals = new Refusals(due);
+        for (int n : Loops.beyond(Plant.LOOPS)) {
+            refusals.number("tick of loop " + n, laws -> laws.tick(n, 1, 9), 0);
+        }
+        LoopLaws laws = Loops.echoes(16);
+        due.number("tick of loop 16 of 16", laws.tick(16, 0, 9), 0);
+        due.number("tick of loop 15 of 16", laws.tick(15, 0, 9), 9);
+    }
+
+    // "An object is used for at most 512 calls after it has been made"
+    private static void answersThe512thCall(Due due) {
+        LoopLaws laws = Loops.one(0, 1, 0, 1);
+        laws.limits(0, -10000, 10000, 10000);
+        for (int call = 4; call < 512; call++) {
+            due.number("call " + call, laws.tick(0, 0, 1), call - 3);
+        }
+        due.number("call 512", laws.tick(0, 0, 1), 509);
     }
 }
