@@ -6,7 +6,7 @@ import java.util.function.Supplier;
  * objects that answer alike are alike. With Plant's calls a run stays below the 512 of an object.
  */
 final class Afterwards {
-    private static final double[] ERRORS = {0, 0, 9, 0, -9, 0.5, -0.5, 200, 200, -200};
+    private static final double[] ERRORS = {0, 0, 9, 0, -9, 2, -1.25, 200, 200, -200};
     private static final double[] HANDS = {
         -10000, -21, -20, 0, 4, 5, 10, 50, 51, 65, 66, 80, 81, 100, 101, 10000, 30};
     private static final double[] SWINGS = {
@@ -49,8 +49,8 @@ final class Afterwards {
             after.tickOn(loop);
         }
         for (int loop = 0; loop < Plant.LOOPS; loop++) {
-            after.tickByHand(loop);
             after.tickOnAndOff(loop);
+            after.tickByHand(loop);
             after.tickFaulty(loop);
             after.tickFreely(loop);
         }

@@ -70,6 +70,23 @@ public final class CascadeTest {
     private static void leadsTheSameAgain(Due due) {
         Refusals refusals = new Refusals(due);
         refusals.yes("the same cascade again", laws -> laws.cascade(0, 1));
+        Refusals longer = new Refusals(due, CascadeTest::chain);
+        longer.yes("the same cascade again, led by hand", laws -> laws.cascade(1, 2));
+        longer.yes("the same cascade again, led on and off", laws -> laws.cascade(2, 3));
+        Refusals law = new Refusals(due, CascadeTest::ledByLaw);
+        law.yes("the same cascade again, by law", laws -> laws.cascade(2, 0));
+        LoopLaws hand = Loops.many(2);
+        hand.hand(0, 40);
+        due.yes("cascade with an outer one by hand", hand.cascade(0, 1));
+        due.number("the outer one keeps its hand value", hand.tick(0, 0, 0), 40);
+    }
+
+    private static LoopLaws ledByLaw() {
+        LoopLaws laws = Plant.running();
+        laws.cascade(2, 0);
+        laws.tick(0, 10, 18);
+        laws.tick(0, 15, 18);
+        return laws;
     }
 
     private static void leavesTheOutputs(Due due) {

@@ -53,6 +53,14 @@ public final class LoopTest {
     // Loops that are made later leave those alone that work already.
     private static void leavesTheOthers(Due due) {
         new Refusals(due).alike("with loops made late", Plant::grown);
+        LoopLaws laws = Loops.many(2);
+        laws.hand(0, 40);
+        laws.cascade(1, 0);
+        Loops.force(laws, 1, 7);
+        due.number("a third loop", laws.loop(1, 1, 1), 2);
+        due.number("loop 0 keeps its hand value", laws.tick(0, 0, 90), 40);
+        laws.mode(0, 2);
+        due.number("loop 0 keeps its outer one: 7 - 9 is below the band", laws.tick(0, 9, 90), 0);
     }
 
     // "NONE, refused, when a gain is not 0 to 1,000"

@@ -76,8 +76,8 @@ public final class SplitTest {
             for (double at : Loops.outside(low, high)) {
                 refusals.number("split of " + n + " at " + at, laws -> laws.split(n, at), -1);
             }
-            due.number("just above LOW of " + n, Plant.running().split(n, Loops.above(low)), 2);
-            due.number("just below HIGH of " + n, Plant.running().split(n, Loops.below(high)), 2);
+            due.number("just above LOW of " + n, Plant.running().split(n, Loops.above(low)), Plant.SPLITS);
+            due.number("just below HIGH of " + n, Plant.running().split(n, Loops.below(high)), Plant.SPLITS);
         }
         refusals.number("split at -0, at LOW 0", laws -> laws.split(3, -0.0), -1);
     }
@@ -88,7 +88,7 @@ public final class SplitTest {
         for (int n : Loops.beyond(Plant.LOOPS)) {
             refusals.number("split of loop " + n, laws -> laws.split(n, 30), -1);
         }
-        due.number("split of the last loop", Plant.running().split(Plant.LOOPS - 1, 30), 2);
+        due.number("split of the last loop", Plant.running().split(Plant.LOOPS - 1, 30), Plant.SPLITS);
         due.number("split of loop 16 of 16", Loops.many(16).split(16, 30), -1);
         due.number("split of loop 15 of 16", Loops.many(16).split(15, 30), 0);
     }

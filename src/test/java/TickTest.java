@@ -32,9 +32,9 @@ public final class TickTest {
         double[] right = {-1000000, Loops.above(-1000000), -0.0, 0, Loops.below(1000000), 1000000};
         for (double v : right) {
             LoopLaws laws = Loops.echoes(1);
-            due.number("measured " + v, laws.tick(0, v, v), 0);
+            due.number("both " + v, laws.tick(0, v, v), 0);
             laws.tick(0, 0, 5);
-            due.number("target " + v + ", held", laws.tick(0, v, v), 0);
+            due.number("both " + v + " behind another u", laws.tick(0, v, v), 0);
             due.number("measured alone " + v, laws.tick(0, v, 0), v > 5 ? -10000 : v < -5 ? 10000 : 0);
             laws.tick(0, 0, 0);
             due.number("target alone " + v, laws.tick(0, 0, v), v > 5 ? 10000 : v < -5 ? -10000 : 0);

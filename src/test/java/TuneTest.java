@@ -17,7 +17,8 @@ public final class TuneTest {
     }
 
     // "A SWITCH is a second, but the first, in which r is another one than before."; the seconds
-    // 15, 23, 31, 39, 47 and 55 are.
+    // 15, 23, 31, 39, 47 and 55 are, as q is "the r of four seconds before, 0 in the first four":
+    // with any other delay they would be others.
     private static void countsSwitches(Due due) {
         LoopLaws laws = Loops.many(1);
         int[] switches = {15, 23, 31, 39, 47, 55};

@@ -40,6 +40,7 @@ public final class TunedTest {
     }
 
     // "0 when .. there were not two switches to 1": the second 23 is the first, 39 the second one.
+    // Behind two of them y has swung, so that "or a is not above 0" never comes in alone.
     private static void givesNoneBeforeTwoRises(Due due) {
         LoopLaws laws = Loops.many(1);
         int[] seconds = {1, 4, 5, 15, 16, 23, 24, 31, 32, 39};
